@@ -122,7 +122,9 @@ public final class RosterPayModelTest {
                 default: return "" + x.excess(a[0], a[1]);
             }
         } catch (RuntimeException e) {
-            return e.getClass().getSimpleName();
+            // What the library or the machine throws is wrong even if it is of the kind that is due.
+            boolean isThrownByProgram = e.getStackTrace()[0].getClassName().equals("RosterPay");
+            return (isThrownByProgram ? "" : "not by the program: ") + e.getClass().getSimpleName();
         }
     }
 
