@@ -6,12 +6,9 @@ public final class RosterPayTest {
     private static final int EVERY_RANK = 15;
     private static final int HOLIDAYS = 0;
 
-    private static final int INDEX = 1_000_000_001;
-    private static final int ARGUMENT = 1_000_000_002;
-    private static final int STATE = 1_000_000_003;
-    private static final int OTHER = 1_000_000_004;
-
-    private static int wrong = 0;
+    private static final int INDEX = Checks.INDEX;
+    private static final int ARGUMENT = Checks.ARGUMENT;
+    private static final int STATE = Checks.STATE;
 
     public static void main(String[] args) {
         testConstants();
@@ -37,53 +34,17 @@ public final class RosterPayTest {
         testPaidBy();
         testWorked();
         testExcess();
-        System.out.println(wrong == 0 ? "all answers are as due" : wrong + " answers are not as due");
-        if (wrong != 0) {
-            System.exit(1);
-        }
+        Checks.finish();
     }
 
     // ---- helpers
 
-    /** The answer of a call, or a number for the exception that it throws. */
-    private static int answer(IntSupplier call) {
-        try {
-            return call.getAsInt();
-        } catch (RuntimeException e) {
-            // What the library or the machine throws is wrong even if it is of the kind that is due.
-            if (!e.getStackTrace()[0].getClassName().equals("RosterPay")) {
-                return OTHER;
-            }
-            if (e.getClass() == IndexOutOfBoundsException.class) {
-                return INDEX;
-            }
-            if (e.getClass() == IllegalArgumentException.class) {
-                return ARGUMENT;
-            }
-            return e.getClass() == IllegalStateException.class ? STATE : OTHER;
-        }
-    }
-
     private static void due(String what, int want, IntSupplier call) {
-        int got = answer(call);
-        if (got != want) {
-            wrong++;
-            System.out.println(what + ": " + named(got) + ", due is " + named(want));
-        }
-    }
-
-    private static String named(int answer) {
-        return switch (answer) {
-            case INDEX -> "IndexOutOfBoundsException";
-            case ARGUMENT -> "IllegalArgumentException";
-            case STATE -> "IllegalStateException";
-            case OTHER -> "another exception";
-            default -> Integer.toString(answer);
-        };
+        Checks.due(what, want, call);
     }
 
     private static int number(boolean isTrue) {
-        return isTrue ? 1 : 0;
+        return Checks.number(isTrue);
     }
 
     private static RosterPay withWorker(int rank) {
