@@ -340,7 +340,10 @@ public final class RosterPayTermsTest {
         }
     }
 
-    /** "the day is a holiday, if it is for holidays, or otherwise its weekday" counts, "whether it is a holiday or not". */
+    /**
+     * "the day is a holiday, if it is for holidays, or otherwise its weekday is among the weekdays of the rule (whether it
+     * is a holiday or not)".
+     */
     private static void testHolidaysOfRule() {
         RosterPay x = withShift(7, 90, 12);
         x.addRule(HOLIDAYS, 0, 96, EVERY_RANK, 300);
@@ -514,7 +517,10 @@ public final class RosterPayTermsTest {
 
     // ---- how a shift is paid
 
-    /** "if these are fewer than 12, those that would come behind them, up to 12. They are numbered from 0." */
+    /**
+     * "its own ones, and, if these are fewer than 12, those that would come behind them, up to 12. They are numbered from
+     * 0."
+     */
     private static void testLeastEngagement() {
         int[] own = {1, 2, 11, 12, 13, 63, 64};
         int[] paid = {12, 12, 12, 12, 13, 63, 64};
@@ -588,7 +594,10 @@ public final class RosterPayTermsTest {
         Checks.due("33 quarters have one", 16000 + 750 + 1000, () -> w.pay(0));
     }
 
-    /** "the rule with the lowest number of those with this percentage; if there is none, OVERTIME, if it is" so paid. */
+    /**
+     * "the rule with the lowest number of those with this percentage; if there is none, OVERTIME, if it is 150 or 200 by
+     * overtime; otherwise PLAIN".
+     */
     private static void testReasons() {
         RosterPay x = withShift(0, 0, 64);
         Checks.due("without rules", "-1 -1 -2 -2", reasons(x, 0, 31, 32, 63));
@@ -643,7 +652,10 @@ public final class RosterPayTermsTest {
         }
     }
 
-    /** "The pay of a shift is what all its paid quarters are paid, and what is paid for breaks": the least and the most. */
+    /**
+     * "The pay of a shift is what all its paid quarters are paid, and what is paid for breaks that were missed": the least
+     * and the most that there can be.
+     */
     private static void testPay() {
         RosterPay x = withShift(0, 0, 1);
         x.setBase(0, 1);
